@@ -170,6 +170,9 @@ public final class CastsTest {
         Due.is("16: apart from it", x.chain(4, 7), 1);
         x.setParts(2);
         Due.is("16: parts of the play alone", x.chain(0, 7), 2);
+        CastDesk y = play(row(0, 1), row(0));
+        y.setParts(1);
+        Due.is("16: a first actor of a part left out", y.chain(0, 0), 1);
     }
 
     private static void wrongInputs() {

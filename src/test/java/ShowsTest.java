@@ -304,6 +304,12 @@ public final class ShowsTest {
         Due.is("23: STANDS of the first", x.refund(1), 0);
         Due.is("23: STAR of the second", x.refund(2), 50);
         Due.is("23: STANDS of the second", x.refund(3), 10);
+
+        CastDesk y = twoParts();
+        y.sell(0, 100, CastDesk.STAR, 1);
+        y.take(1, 3);
+        y.setParts(1);
+        Due.is("19: a star who left the row of a part left out", y.play(), 0);
     }
 
     private static void rounding() {
