@@ -114,6 +114,7 @@ public final class CastsTest {
         CastDesk x = play(row(0, 1, 2, 3), row(0, 1, 2, 3), row(0, 1, 2, 3), row(0, 1, 2, 3),
                 row(4, 5, 6, 7), row(4, 5, 6, 7), row(8, 9, 10, 11), row(8, 9, 10, 11));
         cast("full house", x, 0, 8, 0, 0, 1, 2, 3, 4, 5, 8, 9);
+        Due.is("16: the last two of eight parts", x.chain(8, 0), 2);
         x.cold(8, 0, 0);
         x.cold(4, 0, 0);
         x.cold(6, 0, 0);
@@ -170,9 +171,6 @@ public final class CastsTest {
         Due.is("16: apart from it", x.chain(4, 7), 1);
         x.setParts(2);
         Due.is("16: parts of the play alone", x.chain(0, 7), 2);
-        CastDesk y = play(row(0, 1), row(0));
-        y.setParts(1);
-        Due.is("16: a first actor of a part left out", y.chain(0, 0), 1);
     }
 
     private static void wrongInputs() {
