@@ -17,24 +17,6 @@ public final class CastsTest {
         Due.end("CastsTest");
     }
 
-    /** A play of so many parts with a row for each, all of whom know their parts, and a costume of size 5 each. */
-    private static CastDesk play(int[]... rows) {
-        CastDesk x = new CastDesk();
-        x.setParts(rows.length);
-        for (int part = 0; part < rows.length; part++) {
-            x.costume(part, 5);
-            for (int actor : rows[part]) {
-                x.put(part, actor);
-                x.learn(actor, part, true);
-            }
-        }
-        return x;
-    }
-
-    private static int[] row(int... actors) {
-        return actors;
-    }
-
     private static void cast(String what, CastDesk x, int day, int strain, int work, int... actors) {
         Due.is(what + ": strain", x.strain(day), strain);
         Due.is(what + ": strainByAll", x.strainByAll(day), strain);
@@ -47,7 +29,7 @@ public final class CastsTest {
     private static void plain() {
         CastDesk x = new CastDesk();
         cast("nobody", x, 0, CastDesk.NONE, CastDesk.NONE);
-        x = play(row(3, 4), row(4, 5));
+        x = Houses.play(Houses.row(3, 4), Houses.row(4, 5));
         cast("first actors", x, 0, 0, 0, 3, 4);
         x.cold(3, 1, 1);
         cast("both step in", x, 1, 2, 0, 4, 5);
@@ -61,7 +43,7 @@ public final class CastsTest {
     }
 
     private static void leastStrain() {
-        CastDesk x = play(row(0, 1, 2, 3), row(0, 4), row(1, 5));
+        CastDesk x = Houses.play(Houses.row(0, 1, 2, 3), Houses.row(0, 4), Houses.row(1, 5));
         cast("one of the first two parts steps in", x, 0, 1, 0, 0, 4, 1);
         x.cold(4, 0, 0);
         cast("the first part gives way", x, 0, 2, 0, 1, 0, 5);
@@ -70,7 +52,7 @@ public final class CastsTest {
     }
 
     private static void workBreaksTies() {
-        CastDesk x = play(row(0, 1), row(0, 1));
+        CastDesk x = Houses.play(Houses.row(0, 1), Houses.row(0, 1));
         cast("the lesser rank comes first", x, 0, 1, 0, 0, 1);
         x.setSize(1, 6);
         cast("one dress is let out either way", x, 0, 1, 1, 0, 1);
@@ -81,7 +63,7 @@ public final class CastsTest {
     }
 
     private static void strainComesBeforeWork() {
-        CastDesk x = play(row(0, 2), row(1, 3));
+        CastDesk x = Houses.play(Houses.row(0, 2), Houses.row(1, 3));
         x.setSize(0, 6);
         x.setSize(1, 6);
         cast("much work, no strain", x, 0, 0, 2, 0, 1);
@@ -92,27 +74,28 @@ public final class CastsTest {
     }
 
     private static void ranksBreakTies() {
-        CastDesk x = play(row(0, 1, 2), row(0, 1, 2), row(0, 1, 2));
+        CastDesk x = Houses.play(Houses.row(0, 1, 2), Houses.row(0, 1, 2), Houses.row(0, 1, 2));
         cast("rising ranks", x, 0, 3, 0, 0, 1, 2);
-        CastDesk y = play(row(0, 1), row(2), row(0, 3), row(1, 4));
+        CastDesk y = Houses.play(Houses.row(0, 1), Houses.row(2), Houses.row(0, 3), Houses.row(1, 4));
         cast("the lowest part keeps its first actor", y, 0, 1, 0, 0, 2, 3, 1);
-        CastDesk z = play(row(11, 3, 0), row(11, 0, 3));
+        CastDesk z = Houses.play(Houses.row(11, 3, 0), Houses.row(11, 0, 3));
         cast("by ranks, not by numbers of actors", z, 0, 1, 0, 11, 0);
     }
 
     private static void allUnlike() {
-        CastDesk x = play(row(7), row(7));
+        CastDesk x = Houses.play(Houses.row(7), Houses.row(7));
         cast("one body for two parts", x, 0, CastDesk.NONE, CastDesk.NONE);
         x.setParts(1);
         cast("one part", x, 0, 0, 0, 7);
-        CastDesk y = play(row(0, 1), row(0, 1), row(0, 1));
+        CastDesk y = Houses.play(Houses.row(0, 1), Houses.row(0, 1), Houses.row(0, 1));
         cast("two bodies for three parts", y, 0, CastDesk.NONE, CastDesk.NONE);
     }
 
     /** Four actors of twelve for each of eight parts: each actor knows as many parts as can be. */
     private static void fullHouse() {
-        CastDesk x = play(row(0, 1, 2, 3), row(0, 1, 2, 3), row(0, 1, 2, 3), row(0, 1, 2, 3),
-                row(4, 5, 6, 7), row(4, 5, 6, 7), row(8, 9, 10, 11), row(8, 9, 10, 11));
+        CastDesk x = Houses.play(Houses.row(0, 1, 2, 3), Houses.row(0, 1, 2, 3),
+                Houses.row(0, 1, 2, 3), Houses.row(0, 1, 2, 3),
+                Houses.row(4, 5, 6, 7), Houses.row(4, 5, 6, 7), Houses.row(8, 9, 10, 11), Houses.row(8, 9, 10, 11));
         cast("full house", x, 0, 8, 0, 0, 1, 2, 3, 4, 5, 8, 9);
         Due.is("16: the last two of eight parts", x.chain(8, 0), 2);
         x.cold(8, 0, 0);
@@ -121,8 +104,9 @@ public final class CastsTest {
         cast("three are ill", x, 0, 6 + 4 + 3, 0, 0, 1, 2, 3, 5, 7, 9, 10);
         x.cold(0, 0, 0);
         cast("four parts for three bodies", x, 0, CastDesk.NONE, CastDesk.NONE);
-        CastDesk y = play(row(0, 1, 2, 11), row(1, 2, 0, 10), row(2, 3, 4, 9), row(3, 4, 5, 8),
-                row(4, 5, 6, 7), row(5, 6, 7, 3), row(6, 7, 8, 9), row(7, 8, 9, 10));
+        CastDesk y = Houses.play(Houses.row(0, 1, 2, 11), Houses.row(1, 2, 0, 10),
+                Houses.row(2, 3, 4, 9), Houses.row(3, 4, 5, 8),
+                Houses.row(4, 5, 6, 7), Houses.row(5, 6, 7, 3), Houses.row(6, 7, 8, 9), Houses.row(7, 8, 9, 10));
         cast("all first actors", y, 0, 0, 0, 0, 1, 2, 3, 4, 5, 6, 7);
         for (int part = 0; part < 8; part++) {
             y.setSize(part, 6);
@@ -131,7 +115,7 @@ public final class CastsTest {
     }
 
     private static void noActorKnows() {
-        CastDesk x = play(row(0, 1));
+        CastDesk x = Houses.play(Houses.row(0, 1));
         x.learn(0, 0, false);
         cast("the first actor forgot it", x, 0, 1, 0, 1);
         x.take(0, 0);
@@ -141,7 +125,7 @@ public final class CastsTest {
     }
 
     private static void partsOfThePlay() {
-        CastDesk x = play(row(0, 1), row(0));
+        CastDesk x = Houses.play(Houses.row(0, 1), Houses.row(0));
         cast("two parts", x, 0, 1, 0, 1, 0);
         x.setParts(1);
         cast("one part", x, 0, 0, 0, 0);
@@ -150,7 +134,7 @@ public final class CastsTest {
     }
 
     private static void chain() {
-        CastDesk x = play(row(0, 1), row(1, 2));
+        CastDesk x = Houses.play(Houses.row(0, 1), Houses.row(1, 2));
         Due.is("16: a chain of two", x.chain(0, 0), 2);
         Due.is("16: one steps in", x.chain(1, 0), 1);
         Due.is("16: an understudy", x.chain(2, 0), 0);
@@ -165,7 +149,7 @@ public final class CastsTest {
     }
 
     private static void chainOfThree() {
-        CastDesk x = play(row(0, 1), row(1, 2), row(2, 3), row(4, 5));
+        CastDesk x = Houses.play(Houses.row(0, 1), Houses.row(1, 2), Houses.row(2, 3), Houses.row(4, 5));
         Due.is("16: a chain of three", x.chain(0, 7), 3);
         Due.is("16: a chain of two behind it", x.chain(1, 7), 2);
         Due.is("16: apart from it", x.chain(4, 7), 1);
@@ -174,7 +158,7 @@ public final class CastsTest {
     }
 
     private static void wrongInputs() {
-        CastDesk x = play(row(0));
+        CastDesk x = Houses.play(Houses.row(0));
         Due.noArgument("12: day -1", () -> x.strain(-1));
         Due.noArgument("12: day 1001", () -> x.strain(1001));
         Due.noArgument("13: day -1", () -> x.strainByAll(-1));
@@ -195,7 +179,7 @@ public final class CastsTest {
     }
 
     private static void questionsChangeNothing() {
-        CastDesk x = play(row(0, 1), row(1, 2));
+        CastDesk x = Houses.play(Houses.row(0, 1), Houses.row(1, 2));
         x.setSize(0, 6);
         for (int time = 0; time < 3; time++) {
             cast("asked again", x, 0, 0, 1, 0, 1);

@@ -6,7 +6,6 @@ public final class ShowsTest {
         sell();
         hundredSeats();
         playDays();
-        lastDay();
         playedCast();
         letOutByPlay();
         lowestCostume();
@@ -119,19 +118,6 @@ public final class ShowsTest {
         Due.is("21: the second", x.stateOf(1), CastDesk.AHEAD);
         x.play();
         Due.is("21: the second now", x.stateOf(1), CastDesk.PLAYED);
-    }
-
-    /** No run of 512 calls gets to the last day, but it is the only one on which play may throw. */
-    private static void lastDay() {
-        CastDesk x = new CastDesk();
-        x.show(1000);
-        for (int day = 0; day < 1000; day++) {
-            x.play();
-        }
-        Due.is("20: the last day", x.day(), 1000);
-        Due.noState("19: the last day", () -> x.play());
-        Due.is("20: still", x.day(), 1000);
-        Due.is("21: never played", x.stateOf(0), CastDesk.AHEAD);
     }
 
     private static void playedCast() {
