@@ -1,9 +1,14 @@
 import java.util.function.IntSupplier;
 
-/** Runs of 512 calls, right and wrong ones, each answer held against the one of Model. */
+/**
+ * Runs of 512 calls, right and wrong ones, each answer held against the one of Model; and some runs that go on until
+ * the last day: what they answer is free by the document, but none of their calls may throw by itself.
+ */
 public final class ModelTest {
     private static final int RUNS = 500;
     private static final int CALLS = 512;
+    private static final int LONG_RUNS = 4;
+    private static final int LONG_CALLS = 16000;
 
     private static long row = 1;
     private static int calls = 0;
@@ -13,7 +18,10 @@ public final class ModelTest {
 
     public static void main(String[] args) {
         for (int run = 0; run < RUNS; run++) {
-            oneRun(run);
+            oneRun(run, CALLS);
+        }
+        for (int run = RUNS; run < RUNS + LONG_RUNS; run++) {
+            Due.is("run " + run + ": the last day is met", oneRun(run, LONG_CALLS), 1000);
         }
         // What the runs meet is looked at, lest they say nothing of casts and refunds.
         Due.is("enough shows are played", playedShows > RUNS, true);
@@ -44,7 +52,8 @@ public final class ModelTest {
         }
     }
 
-    private static void oneRun(int run) {
+    /** Returns the day that is met. */
+    private static int oneRun(int run, int most) {
         CastDesk x = new CastDesk();
         Model m = new Model();
         int parts = 1 + next(8);
@@ -53,10 +62,11 @@ public final class ModelTest {
         if (run % 4 != 0) {
             fillHouse(run, x, m, parts);
         }
-        while (calls < CALLS - 2) {
+        while (calls < most - 2) {
             oneCall(run, x, m, parts);
         }
         same(run, "takings", x::takings, m::takings);
+        return m.day();
     }
 
     /** Fills most rows with actors who know their parts, so that large casts come about. */
@@ -84,7 +94,7 @@ public final class ModelTest {
     private static void oneCall(int run, CastDesk x, Model m, int parts) {
         int actor = near(12);
         int part = next(3) == 0 ? near(8) : near(parts);
-        int day = next(3) == 0 ? near(1001) : near(30);
+        int day = next(3) == 0 ? near(1001) : m.day() / 30 * 30 + near(30);
         int number = near(40);
         switch (next(40)) {
             case 0: case 1: case 2: case 3: case 4: case 5: case 6: case 7: case 8:

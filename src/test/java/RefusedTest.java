@@ -47,6 +47,7 @@ public final class RefusedTest {
         indexBeforeState();
         argumentBeforeState();
         questionsChangeNothing();
+        otherTheatresChangeNothing();
         Due.end("RefusedTest");
     }
 
@@ -270,6 +271,17 @@ public final class RefusedTest {
             unchanged("21: stateOf", house, x -> x.stateOf(2));
             unchanged("22: played", house, x -> x.played(0, 0));
             unchanged("23: refund", house, x -> x.refund(1));
+        }
+    }
+
+    /** Promise 1: "Makes a theatre": each object is one of its own, whatever is done with others. */
+    private static void otherTheatresChangeNothing() {
+        for (House house : House.values()) {
+            unchanged("1: another theatre", house, x -> {
+                CastDesk other = House.FULL.make();
+                other.chain(1, 2);
+                other.play();
+            });
         }
     }
 }
